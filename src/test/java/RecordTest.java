@@ -127,19 +127,17 @@ public final class RecordTest {
     }
 
     private static void castling() {
-        String[] both = {"r3k2r/8/8/8/8/8/8/R3K2R", "KQkq"};
-        answers(0, both[0] + " w " + both[1] + " - 0 1");
+        answers(0, "r3k2r/8/8/8/8/8/8/R3K2R w KQkq - 0 1");
         String[][] without = {
             {"K", "r3k2r/8/8/8/8/8/8/R3K3"}, {"Q", "r3k2r/8/8/8/8/8/8/4K2R"},
             {"k", "r3k3/8/8/8/8/8/8/R3K2R"}, {"q", "4k2r/8/8/8/8/8/8/R3K2R"},
             {"K", "r3k2r/8/8/8/8/8/8/R4K1R"}, {"Q", "r3k2r/8/8/8/8/8/8/R2K3R"},
             {"k", "r4k1r/8/8/8/8/8/8/R3K2R"}, {"q", "r2k3r/8/8/8/8/8/8/R3K2R"},
             {"K", "r3k2r/8/8/8/8/8/8/R3K2r"}, {"q", "R3k2r/8/8/8/8/8/8/4K3"},
-            {"K", "8/8/8/8/8/8/8/R3k2R"}};
+            {"K", "4K3/8/8/8/8/8/8/R3k2R"}};
         for (String[] pair : without) {
-            String kings = pair[1].contains("K") ? pair[1] : "4K3" + pair[1].substring(1);
-            answers(9, kings + " w " + pair[0] + " - 0 1");
-            answers(9, kings + " b " + pair[0] + " - 0 1");
+            answers(9, pair[1] + " w " + pair[0] + " - 0 1");
+            answers(9, pair[1] + " b " + pair[0] + " - 0 1");
         }
         answers(0, "r3k3/8/8/8/8/8/8/4K2R w Kq - 0 1");
         answers(9, "r3k3/8/8/8/8/8/8/4K2R w KQq - 0 1");
