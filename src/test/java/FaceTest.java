@@ -24,23 +24,32 @@ public final class FaceTest {
             "public int GameNotation.find()",
             "public int GameNotation.look(int)"));
 
+    private static final Due DUE = new Due("The public face");
+
     public static void main(String[] args) {
-        Due due = new Due();
-        due.is("NONE", GameNotation.NONE, -1);
-        due.is("the class", Modifier.toString(GameNotation.class.getModifiers()), "public final");
-        due.is("the methods", visibleMethods().toString(), FACE.toString());
-        due.is("private methods with a public one's name", namesTwice().toString(), "[]");
-        due.is("the fields", visibleFields().toString(), "[public static final int GameNotation.NONE]");
-        due.is("static fields that are not final", openStatics(GameNotation.class).toString(), "[]");
-        Constructor<?>[] constructors = GameNotation.class.getDeclaredConstructors();
-        due.is("the constructors", Arrays.toString(constructors), "[public GameNotation()]");
+        DUE.test("NONE = -1", () -> DUE.is("NONE", GameNotation.NONE, -1));
+        DUE.test("the class is public and final",
+                () -> DUE.is("its modifiers", Modifier.toString(GameNotation.class.getModifiers()), "public final"));
+        DUE.test("the document's methods and no other", () -> DUE.is("the methods", visibleMethods().toString(), FACE.toString()));
+        DUE.test("the document's constructor and no other", () -> {
+            Constructor<?>[] constructors = GameNotation.class.getDeclaredConstructors();
+            DUE.is("the constructors", Arrays.toString(constructors), "[public GameNotation()]");
+        });
+        DUE.test("the document's constant and no other",
+                () -> DUE.is("the fields", visibleFields().toString(), "[public static final int GameNotation.NONE]"));
+        DUE.test("no private method bears the name of a public one", () -> DUE.is("such names", namesTwice().toString(), "[]"));
+        DUE.test("static fields are final", () -> DUE.is("others", openStatics(GameNotation.class).toString(), "[]"));
+        DUE.test("the classes inside are static and not public", FaceTest::classesInside);
+        DUE.end();
+    }
+
+    private static void classesInside() {
         for (Class<?> inside : GameNotation.class.getDeclaredClasses()) {
             int modifiers = inside.getModifiers();
-            due.is(inside + " is static", Modifier.isStatic(modifiers), true);
-            due.is(inside + " is public or protected", Modifier.isPublic(modifiers) || Modifier.isProtected(modifiers), false);
-            due.is("static fields that are not final", openStatics(inside).toString(), "[]");
+            DUE.is(inside + " is static", Modifier.isStatic(modifiers), true);
+            DUE.is(inside + " is public or protected", Modifier.isPublic(modifiers) || Modifier.isProtected(modifiers), false);
+            DUE.is("its static fields that are not final", openStatics(inside).toString(), "[]");
         }
-        due.end();
     }
 
     private static Set<String> visibleMethods() {

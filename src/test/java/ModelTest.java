@@ -3,8 +3,9 @@ import java.util.Random;
 
 /** Long runs of calls, the same in every test run, each answer compared with the plain model's (all promises). */
 public final class ModelTest {
-    private static final int RUNS = 1500;
-    private static final int CALLS = 400;
+    private static final int RUNS = 8000;
+    // Each run stops here, so that what is compared at its end stays within the 512 calls of an object.
+    private static final int CALLS = 300;
     private static final String[] RECORDS = {
         "rnbqkbnr/pppppppp/8/8/8/8/PPPPPPPP/RNBQKBNR w KQkq - 0 1",
         "rnbqkbnr/pppp1ppp/8/4p3/4P3/8/PPPP1PPP/RNBQKBNR w KQkq e6 0 2",
@@ -17,33 +18,33 @@ public final class ModelTest {
     private static final String RECORD_CHARACTERS = "PNBRQKpnbrqk12345678/ wb-KQkqae36019";
     private static final String MOVE_CHARACTERS = "KQRBNabcdefgh12345678x+#0-QRBN";
 
-    private final Due due = new Due();
+    private final Due due = new Due("All promises, by the plain model");
     private final Random random = new Random(20261115);
-    private GameNotation game;
+    private Game game;
     private PlainModel model;
 
     public static void main(String[] args) {
         ModelTest test = new ModelTest();
-        for (int run = 0; run < RUNS; run++) {
-            test.run(run);
-        }
+        test.due.test("runs of records", () -> test.runs(true));
+        test.due.test("runs of moves", () -> test.runs(false));
         test.due.end();
     }
 
-    private void run(int run) {
-        game = new GameNotation();
-        model = new PlainModel();
-        // A small part of the board makes rivals and spellings that are alike frequent.
-        int squares = run % 3 == 0 ? 64 : 20;
-        for (int call = 0; call < CALLS; call++) {
-            int kind = random.nextInt(100);
-            if (run % 2 == 0) {
-                records(kind, squares);
-            } else {
-                moves(kind, squares, call);
+    private void runs(boolean ofRecords) {
+        for (int run = 0; run < RUNS; run++) {
+            game = new Game();
+            model = new PlainModel();
+            // A small part of the board makes rivals and spellings that are alike frequent.
+            int squares = run % 3 == 0 ? 64 : 18;
+            while (game.calls() < CALLS) {
+                if (ofRecords) {
+                    records(random.nextInt(100), squares);
+                } else {
+                    moves(random.nextInt(100), squares);
+                }
             }
+            compareAll("at the end of run " + run);
         }
-        compareAll("at the end of run " + run);
     }
 
     private void records(int kind, int squares) {
@@ -60,14 +61,14 @@ public final class ModelTest {
         } else if (kind < 90) {
             attacked(random.nextInt(66) - 1, random.nextInt(4) - 1);
         } else {
-            moves(kind, squares, 100);
+            moves(kind, squares);
         }
     }
 
-    private void moves(int kind, int squares, int call) {
-        if (call < 25) {
+    private void moves(int kind, int squares) {
+        if (game.calls() < 20) {
             put(random.nextInt(squares), oftenKing(random.nextInt(13)));
-        } else if (kind < 40) {
+        } else if (game.calls() < 80 || kind < 40) {
             tell(randomMove(squares), random.nextInt(30) == 0 ? random.nextInt() : random.nextInt(3));
         } else if (kind < 60) {
             spell(anyMove(squares));
@@ -87,7 +88,7 @@ public final class ModelTest {
             game.forget();
             model.forget();
         } else {
-            compareAll("on the way");
+            attacked(random.nextInt(66) - 1, random.nextInt(4) - 1);
         }
     }
 
@@ -148,7 +149,7 @@ public final class ModelTest {
         game.wipe();
         model.text = "";
         for (int i = 0; i < text.length(); i += 8) {
-            type(Due.part(text.substring(i, Math.min(text.length(), i + 8))));
+            type(Game.part(text.substring(i, Math.min(text.length(), i + 8))));
         }
     }
 
@@ -163,7 +164,7 @@ public final class ModelTest {
 
     private void write() {
         due.is("write()", game.write(), model.write());
-        due.is("the record written", Due.textOf(game), model.text);
+        due.is("the record written", game.text(), model.text);
     }
 
     private void put(int square, int man) {
@@ -197,7 +198,7 @@ public final class ModelTest {
         } else {
             due.is("spell(" + move + ")", game.spell(move), want);
         }
-        due.is("the text behind spell(" + move + ")", Due.textOf(game), model.text);
+        due.is("the text behind spell(" + move + ")", game.text(), model.text);
     }
 
     private void find() {
@@ -208,13 +209,10 @@ public final class ModelTest {
         for (int which = -1; which <= 7; which++) {
             due.is("look(" + which + ") " + when, game.look(which), model.look(which));
         }
-        for (int i = -1; i <= 100; i++) {
-            due.is("text(" + i + ") " + when, game.text(i), model.text(i));
-        }
         for (int square = -1; square <= 64; square++) {
             due.is("at(" + square + ") " + when, game.at(square), model.at(square));
-            attacked(square, 0);
-            attacked(square, 1);
         }
+        due.is("the text " + when, game.text(), model.text);
+        due.is("text(-1)", game.text(-1), model.text(-1));
     }
 }

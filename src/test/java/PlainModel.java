@@ -108,7 +108,7 @@ final class PlainModel {
         String[] homes = {"e1Kh1R", "e1Ka1R", "e8kh8r", "e8ka8r"};
         for (int i = 0; i < 4; i++) {
             String home = homes[i];
-            boolean stands = board[Due.square(home)] == home.charAt(2) && board[Due.square(home.substring(3))] == home.charAt(5);
+            boolean stands = board[Game.square(home)] == home.charAt(2) && board[Game.square(home.substring(3))] == home.charAt(5);
             if ((rights & 1 << i) != 0 && !stands) {
                 return 9;
             }
