@@ -5,6 +5,7 @@ import java.util.List;
 final class Game {
     static final int NONE = GameNotation.NONE;
     static final int[] FAR = {Integer.MIN_VALUE, Integer.MIN_VALUE + 1, Integer.MAX_VALUE - 1, Integer.MAX_VALUE};
+    static final String SAMPLE = "q6k/1P6/8/8/8/2N5/8/Q3K2R b Kq f3 66 777";
     private static final int MOST_CALLS = 512;
 
     private final GameNotation made = new GameNotation();
@@ -28,7 +29,7 @@ final class Game {
         return game;
     }
 
-    /** One that has all that an object can have: men, a state, a text and moves of every sign. */
+    /** One that has all that an object can have: men, a state (both as in SAMPLE), six moves of every sign and a text. */
     static Game sample() {
         Game game = of("q6k/1P6/8/8/8/2N5/8/Q3K2R");
         game.state(1, 9, 5, 66, 777);

@@ -134,6 +134,9 @@ public final class Promise02TypeTest {
     private static void textAlone() {
         Game game = Game.sample();
         game.type('x');
-        DUE.is("what else is there", game.seenBesidesText(), Game.sample().seenBesidesText());
+        DUE.is("look(6)", game.look(6), 6);
+        DUE.is("the moves", game.seenMoves(), "6 b8Q# bxa8N Qxa8+ 0-0 Nd5 Kh7+");
+        game.write();
+        DUE.is("the position", game.text(), Game.SAMPLE);
     }
 }

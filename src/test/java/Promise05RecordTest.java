@@ -589,6 +589,16 @@ public final class Promise05RecordTest {
                 DUE.is("what is left", game.seen(), Game.sample().typed(text).seen());
             });
         }
+        DUE.test("what is refused behind one that was read leaves that one", () -> {
+            String right = "r3k2r/8/8/3pP3/8/8/8/R3K2R w KQkq d6 0 9999";
+            for (int i = 0; i < texts.length; i++) {
+                Game game = new Game().typed(right);
+                DUE.is("record()", game.record(), 0);
+                DUE.is("record() of '" + texts[i] + "'", game.typed(texts[i]).record(), i + 1);
+                game.write();
+                DUE.is("the record that is written then", game.text(), right);
+            }
+        });
         DUE.test("what is refused leaves nothing in the next one that is read", () -> {
             Game game = new Game().typed(START + " b KQkq - 55 x");
             DUE.is("record()", game.record(), 6);

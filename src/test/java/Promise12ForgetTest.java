@@ -5,7 +5,7 @@ public final class Promise12ForgetTest {
     public static void main(String[] args) {
         DUE.test("no moves are told", Promise12ForgetTest::noMoves);
         DUE.test("of none, too", Promise12ForgetTest::ofNone);
-        DUE.test("of 330, and there is room for 330 again", Promise12ForgetTest::ofAll);
+        DUE.test("of 330, and there is room again", Promise12ForgetTest::ofAll);
         DUE.test("what was told is no rival any more", Promise12ForgetTest::noRivals);
         DUE.test("the text and the position stay", Promise12ForgetTest::theRestStays);
         DUE.end();

@@ -88,7 +88,8 @@ public final class Promise14FindTest {
         DUE.test("-1: a full text", () -> allWithNoneTold(-1, "e4".repeat(50), "0-".repeat(50), "N".repeat(98) + "e4", "x".repeat(100)));
         DUE.test("-1: a blank ahead of it or behind it", () -> allWithNoneTold(-1, " e4", "e4 ", " Nd2", "Nd2 ", "Nd2+ ", " 0-0", "0-0 ", " "));
         DUE.test("-1: almost 0-0 or 0-0-0", () -> allWithNoneTold(-1, "0", "0-", "00", "-0", "0-0-", "0-0-0-", "0-0-0-0", "0-0-0-0-0",
-                "O-O", "o-o", "0-1", "0--0", "0-0Q", "K0-0", "0-0-0x", "000", "00-0"));
+                "O-O", "o-o", "0-1", "1-0", "O-0", "0+0", "0_0-0", "1-0-0", "0-1-0", "0-0-1", "0-0+0", "0--0", "0-0Q", "K0-0", "0-0-0x", "000",
+                "00-0"));
         DUE.test("-1: a letter of K Q R B N alone, or with too little behind it",
                 () -> allWithNoneTold(-1, "K", "Q", "Ke", "K2", "Nx", "Nxd", "Nx2", "N12", "Nab", "Nxx"));
         DUE.test("-1: more behind the letter than it has room for", () -> allWithNoneTold(-1, "Nbcd2", "N12d2", "N1bd2", "Nb1d2d3", "Nxxd2",
@@ -156,7 +157,8 @@ public final class Promise14FindTest {
         DUE.test("-2: no told move has that letter behind it, or has one", () ->
             finds(ranks, moves, "e8N", "-2", "e8B", "-2", "e8", "-2", "exd8Q", "-2", "exd8", "-2", "d8", "-2"));
         DUE.test("-2: a letter behind a move that has none", () -> finds("8/8/8/8/8/8/4P3/8", "e2e4", "e4Q", "-2", "exe4N", "-2"));
-        DUE.test("the man is of either side", () -> finds("8/8/8/8/8/5n2/4p3/8", "f3d2:1 e2e1Q", "Nd2+", "f3d2", "Nd2", "-4", "Nfd2", "-3", "e1Q", "e2e1Q"));
+        DUE.test("the man is of either side", () ->
+            finds("8/8/8/8/8/5n2/4p3/8", "f3d2:1 e2e1Q", "Nd2+", "f3d2", "Nd2", "-4", "Nfd2", "-3", "e1Q", "e2e1Q"));
         DUE.test("-2: none castles, or none to that side", () -> {
             finds(ranks, moves, "0-0", "-2", "0-0-0", "-2", "0-0+", "-2");
             finds("8/8/8/8/8/8/8/4K2R", "e1g1:1", "0-0-0", "-2", "0-0-0+", "-2");
@@ -188,10 +190,12 @@ public final class Promise14FindTest {
         String moves = "b1d2 f1d2 e7e8Q e7d8N h1h2 f1e3";
         DUE.test("-3: the ORIGIN is missing", () -> finds(ranks, moves, "Nd2", "-3", "Nd2+", "-3", "Nd2#", "-3"));
         DUE.test("-3: the ORIGIN is another one", () -> finds(ranks, moves, "Nad2", "-3", "N1d2", "-3", "Nb2d2", "-3", "Nc1d2", "-3"));
-        DUE.test("-3: the ORIGIN says more than it must", () -> finds(ranks, moves, "Nb1d2", "-3", "Nfe3", "-3", "N1e3", "-3", "Nf1e3", "-3", "Khh2", "-3"));
+        DUE.test("-3: the ORIGIN says more than it must", () ->
+            finds(ranks, moves, "Nb1d2", "-3", "Nfe3", "-3", "N1e3", "-3", "Nf1e3", "-3", "Khh2", "-3"));
         DUE.test("-3: x where nothing stands", () -> finds(ranks, moves, "Nbxd2", "-3", "Nxe3#", "-3", "Kxh2", "-3", "exe8Q", "-3", "dxe8Q", "-3"));
         DUE.test("-3: no x where something stands", () -> finds("8/8/8/8/8/8/3p4/1N6", "b1d2", "Nd2", "-3", "Nbd2", "-3", "Nxd2", "b1d2"));
-        DUE.test("-3: a pawn without its file, or with another", () -> finds(ranks, moves, "d8N", "-3", "fxd8N", "-3", "cxd8N+", "-3", "exd8N", "e7d8N"));
+        DUE.test("-3: a pawn without its file, or with another", () ->
+            finds(ranks, moves, "d8N", "-3", "fxd8N", "-3", "cxd8N+", "-3", "exd8N", "e7d8N"));
         DUE.test("-3: a pawn that keeps its file, with a file", () -> finds("8/8/4n3/8/8/8/4P3/8", "e2e6", "exe6", "-3", "dxe6", "-3", "e6", "e2e6"));
         DUE.test("-3: the whole ORIGIN where the file would do, and the other way round", () ->
             finds("8/8/8/8/Q6Q/8/8/7Q", "h4e1 a4e1 h1e1", "Qhe1", "-3", "Q4e1", "-3", "Qh1e1", "-3", "Qa4e1", "-3", "Qh4e1", "h4e1"));
@@ -210,6 +214,7 @@ public final class Promise14FindTest {
             finds("8/8/8/3P1P2/8/8/8/8", "d5e6:1 f5e6", "dxe6", "-4", "fxe6+", "-4", "e6", "-3", "gxe6", "-3");
             finds("8/8/8/3P1P2/8/8/8/8", "f5e6 d5e6:1", "dxe6", "-4", "fxe6+", "-4", "e6", "-3", "gxe6", "-3");
         });
-        DUE.test("-3, not -4, if neither the sign nor the rest is right", () -> finds("8/8/8/8/8/8/8/1N5K", "b1d2:1", "Nbd2", "-3", "Nxd2#", "-3", "Nbd2+", "-3"));
+        DUE.test("-3, not -4, if neither the sign nor the rest is right", () ->
+            finds("8/8/8/8/8/8/8/1N5K", "b1d2:1", "Nbd2", "-3", "Nxd2#", "-3", "Nbd2+", "-3"));
     }
 }
